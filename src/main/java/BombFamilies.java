@@ -227,8 +227,8 @@ public final class BombFamilies {
                 case 4: makeEmpty(size); break;
                 case 5: makeAgains(size); break;
                 case 6: makeTables(size); break;
-                case 7: makeCuts(size); break;
-                case 8: makeSums(size); break;
+                case 7: makeDrawn(size); cutEnd(); break;
+                case 8: makeDrawn(size); spoilCheck(); break;
                 default: makeDrawn(size); break;
             }
         }
@@ -244,7 +244,8 @@ public final class BombFamilies {
         }
 
         private void append(int a, int b, int c) {
-            append(a, b);
+            tape.append(a);
+            tape.append(b);
             tape.append(c);
         }
 
@@ -332,14 +333,12 @@ public final class BombFamilies {
             appendEnd(0);
         }
 
-        private void makeCuts(int size) {
-            makeDrawn(size);
+        private void cutEnd() {
             int gone = 1 + next(4);
             tape.keepFirst(tape.size - gone);
         }
 
-        private void makeSums(int size) {
-            makeDrawn(size);
+        private void spoilCheck() {
             int last = tape.size - 1;
             tape.put(last, (tape.get(last) + 1) & 255);
         }
@@ -431,7 +430,7 @@ public final class BombFamilies {
         }
     }
 
-    /** A PACK that is being READ: where it ends, and what came and stood ahead of it. */
+    /** A PACK that is being READ: its place, how many bytes came ahead of it, and which of the item ends are its. */
     private static final class Pack {
         private int from, end, cameAhead, firstItem, items;
 
@@ -550,7 +549,7 @@ public final class BombFamilies {
             items.size = 0;
             out.keepFirst(0);
             reads++;
-            readPack(0, tape.size, 0);
+            readPack(0, tape.size, 0, 0);
             return fault;
         }
 
@@ -593,7 +592,7 @@ public final class BombFamilies {
             return true;
         }
 
-        private void readPack(int from, int end, int depth) {
+        private void readPack(int from, int end, int depth, int firstItem) {
             if (depth < 0 || depth >= packs.length) {
                 fail(TOO_DEEP, from);
                 return;
@@ -604,7 +603,7 @@ public final class BombFamilies {
             begun++;
             deepest = Math.max(deepest, depth);
             Pack pack = packs[depth];
-            pack.begin(from, end, out.size, depth == 0 ? 0 : packs[depth - 1].firstItem + packs[depth - 1].items);
+            pack.begin(from, end, out.size, firstItem);
             spot = from;
             readMark(MARK_ONE, end);
             readMark(MARK_TWO, end);
@@ -652,7 +651,7 @@ public final class BombFamilies {
                 case STORED: readStored(place, pack.end); break;
                 case RUN: readRun(place, pack.end); break;
                 case COPY: readCopy(place, pack); break;
-                case NEST: readNest(place, pack.end, depth); break;
+                case NEST: readNest(place, pack, depth); break;
                 case NOTE: readNote(place, pack.end); break;
                 case AGAIN: readAgain(place, pack); break;
                 case CODED: readBits(readTable(place, pack.end), pack.end); break;
@@ -712,21 +711,21 @@ public final class BombFamilies {
             }
         }
 
-        private void readNest(int place, int end, int depth) {
-            int h = next(end);
-            int l = next(end);
+        private void readNest(int place, Pack pack, int depth) {
+            int h = next(pack.end);
+            int l = next(pack.end);
             if (h == NONE || l == NONE) {
                 return;
             }
             int length = 256 * h + l;
-            if (!hasBytes(length, end) || !pay(place, 0, 3)) {
+            if (!hasBytes(length, pack.end) || !pay(place, 0, 3)) {
                 return;
             }
             if (depth + 1 > deep) {
                 fail(TOO_DEEP, place);
                 return;
             }
-            readPack(spot, spot + length, depth + 1);
+            readPack(spot, spot + length, depth + 1, pack.firstItem + pack.items);
         }
 
         private void readNote(int place, int end) {
