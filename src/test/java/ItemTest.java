@@ -154,5 +154,10 @@ public final class ItemTest {
         Due.lay(x, Due.join(ints(80, 75), Due.times(599, 6, 0)));
         DUE.is("shrink of AGAINS", 1200, x.shrink(0, 20000, 0));
         DUE.is("place", 3, x.place());
+        // the RUN has to come back to a full TAPE, as the COPIES are bad without it
+        Due.lay(x, Due.join(ints(80, 75, 2, 1, 9), Due.times(398, 3, 1, 0), ints(8)));
+        DUE.is("a full TAPE", 1200, x.count(0));
+        DUE.is("shrink of COPIES", 6, x.shrink(4000, 20000, 0));
+        tape("shrink of COPIES", x, 80, 75, 2, 1, 9, 8);
     }
 }
