@@ -511,7 +511,7 @@ public final class BombFamilies {
 
     /** READS the TAPE and keeps what the latest READ found. */
     private static final class Reader {
-        private static final int PACK_COST = 4;
+        private static final int PACK_COST = 4, NEST_COST = 3;
         private final Bytes tape, out;
         private final Items items;
         private final Table table;
@@ -579,13 +579,20 @@ public final class BombFamilies {
             return true;
         }
 
-        private boolean pay(int place, int come, int price) {
+        private boolean canPay(int place, int come, int price) {
             if (out.size + come > most) {
                 fail(TOO_MANY, place);
                 return false;
             }
             if (cost + price > steps) {
                 fail(TOO_DEAR, place);
+                return false;
+            }
+            return true;
+        }
+
+        private boolean pay(int place, int come, int price) {
+            if (!canPay(place, come, price)) {
                 return false;
             }
             cost += price;
@@ -718,13 +725,15 @@ public final class BombFamilies {
                 return;
             }
             int length = 256 * h + l;
-            if (!hasBytes(length, pack.end) || !pay(place, 0, 3)) {
+            if (!hasBytes(length, pack.end) || !canPay(place, 0, NEST_COST)) {
                 return;
             }
+            // told behind the STEPS, but a NEST that is refused for it COSTS nothing
             if (depth + 1 > deep) {
                 fail(TOO_DEEP, place);
                 return;
             }
+            cost += NEST_COST;
             readPack(spot, spot + length, depth + 1, pack.firstItem + pack.items);
         }
 

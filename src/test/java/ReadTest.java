@@ -248,20 +248,22 @@ public final class ReadTest {
         BombFamilies x = DUE.opens("just DEEP", both, Due.bounds(9, 999, 2), 2, NONE, 4 + 3 + 4 + 3 + 4 + 4 + 3 + 4 + 4, 9, 9);
         DUE.is("how deep", 2, x.count(3));
         DUE.is("PACKS", 4, x.count(4));
-        x = DUE.opens("above DEEP", both, Due.bounds(9, 999, 1), -23, 7, 4 + 3 + 4 + 3);
+        x = DUE.opens("above DEEP", both, Due.bounds(9, 999, 1), -23, 7, 4 + 3 + 4);
         DUE.is("how deep", 1, x.count(3));
         DUE.is("PACKS", 2, x.count(4));
-        x = DUE.opens("DEEP 0", both, Due.bounds(9, 999, 0), -23, 2, 4 + 3);
+        x = DUE.opens("DEEP 0", both, Due.bounds(9, 999, 0), -23, 2, 4);
         DUE.is("how deep", 0, x.count(3));
         DUE.is("PACKS", 1, x.count(4));
         DUE.opens("STEPS, ahead of DEEP", both, Due.bounds(9, 6, 0), -22, 2, 4);
-        DUE.opens("DEEP, ahead of the PACK's STEPS", both, Due.bounds(9, 7, 0), -23, 2, 7);
+        DUE.opens("DEEP, ahead of the PACK's STEPS", both, Due.bounds(9, 7, 0), -23, 2, 4);
         DUE.opens("what lacks, ahead of DEEP", ints(80, 75, 4, 0, 9, 80), Due.bounds(9, 999, 0), -13, 6, 4);
-        DUE.opens("DEEP, ahead of what is in it", Due.pack(4, 0, 1, 9), Due.bounds(9, 999, 0), -23, 2, 7);
+        DUE.opens("DEEP, ahead of what is in it", Due.pack(4, 0, 1, 9), Due.bounds(9, 999, 0), -23, 2, 4);
+        int[] behind = Due.pack(Due.join(ints(1, 1, 9), Due.nest(tape)));
+        DUE.opens("DEEP, behind an ITEM", behind, Due.bounds(9, 999, 0), -23, 5, 4 + 4, 9);
         for (int i = 0; i < 9; i++) {
             tape = Due.pack(Due.nest(tape));
         }
-        DUE.opens("9 deep", tape, WIDE, -23, 42, 9 * 7);
+        DUE.opens("9 deep", tape, WIDE, -23, 42, 8 * 7 + 4);
     }
 
     private static void firstOfTwoFaults() {

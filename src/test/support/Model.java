@@ -97,13 +97,17 @@ final class Model {
         }
     }
 
-    private void charge(int at, int come, int price) throws Fault {
+    private void afford(int at, int come, int price) throws Fault {
         if (out.size() + come > most) {
             throw new Fault(11, at);
         }
         if (cost + price > steps) {
             throw new Fault(12, at);
         }
+    }
+
+    private void charge(int at, int come, int price) throws Fault {
+        afford(at, come, price);
         cost += price;
     }
 
@@ -173,10 +177,11 @@ final class Model {
         if (kind == 4) {
             int length = 256 * a + b;
             need(at + 3, length, end);
-            charge(at, 0, 3);
+            afford(at, 0, 3);
             if (depth >= deep) {
                 throw new Fault(13, at);
             }
+            charge(at, 0, 3);
             pack(at + 3, at + 3 + length, depth + 1);
             return at + 3 + length;
         }
