@@ -23,8 +23,8 @@ public final class ModelTest {
     }
 
     private static void oneRun(int run) {
-        BombFamilies x = new BombFamilies(RANDOM.nextLong());
-        Model model = new Model();
+        Calls x = new Calls(RANDOM.nextLong());
+        Model model = new Model(0);
         for (int call = 0; call < 12; call++) {
             if (RANDOM.nextInt(3) > 0) {
                 layOrDraw(x);
@@ -48,7 +48,7 @@ public final class ModelTest {
         }
     }
 
-    private static List<Integer> tape(BombFamilies x) {
+    private static List<Integer> tape(Calls x) {
         List<Integer> tape = new ArrayList<>();
         for (int b : Due.tapeOf(x)) {
             tape.add(b);
@@ -56,7 +56,7 @@ public final class ModelTest {
         return tape;
     }
 
-    private static void layOrDraw(BombFamilies x) {
+    private static void layOrDraw(Calls x) {
         if (RANDOM.nextBoolean()) {
             x.draw(RANDOM.nextInt(10), upTo(RANDOM.nextBoolean() ? 60 : 9));
         } else {
@@ -64,7 +64,7 @@ public final class ModelTest {
         }
     }
 
-    private static void alter(BombFamilies x) {
+    private static void alter(Calls x) {
         int size = x.count(0);
         int i = RANDOM.nextInt(size + 1);
         switch (RANDOM.nextInt(6)) {

@@ -208,7 +208,7 @@ public final class ReadTest {
         int[] costs = {6, 6, 5, 9, 5};
         for (int i = 0; i < items.length; i++) {
             int[] tape = Due.pack(items[i]);
-            BombFamilies x = Due.taped(tape);
+            Calls x = Due.taped(tape);
             String name = "KIND " + items[i][0];
             DUE.is(name + " just STEPS", 1, x.open(4000, 4 + costs[i], 0) >= 0 ? 1 : 0);
             DUE.is(name + " COST", 4 + costs[i], x.count(2));
@@ -227,14 +227,14 @@ public final class ReadTest {
 
     private static void stepsOfPacks() {
         for (int steps = 0; steps < 4; steps++) {
-            BombFamilies x = DUE.opens("a PACK", ints(1, 2, 3), Due.bounds(9, steps, 0), -22, 0, 0);
+            Calls x = DUE.opens("a PACK", ints(1, 2, 3), Due.bounds(9, steps, 0), -22, 0, 0);
             DUE.is("no PACK began", 0, x.count(4));
         }
         DUE.opens("a PACK of no bytes", ints(), Due.bounds(9, 3, 0), -22, 0, 0);
         int[] tape = Due.pack(Due.nest(Due.pack()));
         DUE.opens("a NEST", tape, Due.bounds(9, 6, 8), -22, 2, 4);
         for (int steps = 7; steps < 11; steps++) {
-            BombFamilies x = DUE.opens("the PACK in a NEST", tape, Due.bounds(9, steps, 8), -22, 5, 7);
+            Calls x = DUE.opens("the PACK in a NEST", tape, Due.bounds(9, steps, 8), -22, 5, 7);
             DUE.is("one PACK began", 1, x.count(4));
             DUE.is("it came not deep", 0, x.count(3));
         }
@@ -245,7 +245,7 @@ public final class ReadTest {
     private static void depths() {
         int[] tape = Due.pack(1, 1, 9);
         int[] both = Due.pack(Due.join(Due.nest(Due.pack(Due.nest(tape))), Due.nest(tape)));
-        BombFamilies x = DUE.opens("just DEEP", both, Due.bounds(9, 999, 2), 2, NONE, 4 + 3 + 4 + 3 + 4 + 4 + 3 + 4 + 4, 9, 9);
+        Calls x = DUE.opens("just DEEP", both, Due.bounds(9, 999, 2), 2, NONE, 4 + 3 + 4 + 3 + 4 + 4 + 3 + 4 + 4, 9, 9);
         DUE.is("how deep", 2, x.count(3));
         DUE.is("PACKS", 4, x.count(4));
         x = DUE.opens("above DEEP", both, Due.bounds(9, 999, 1), -23, 7, 4 + 3 + 4);
@@ -273,7 +273,7 @@ public final class ReadTest {
     }
 
     private static void wrongNumbers() {
-        BombFamilies x = Due.taped(Due.pack(1, 1, 7));
+        Calls x = Due.taped(Due.pack(1, 1, 7));
         DUE.is("open", 1, x.open(4000, 20000, 8));
         String was = Due.picture(x);
         int low = Integer.MIN_VALUE;
@@ -294,7 +294,7 @@ public final class ReadTest {
     }
 
     private static void counts() {
-        BombFamilies x = Due.taped(Due.pack(Due.join(ints(1, 2, 7, 8), Due.nest(Due.pack(2, 3, 1)))));
+        Calls x = Due.taped(Due.pack(Due.join(ints(1, 2, 7, 8), Due.nest(Due.pack(2, 3, 1)))));
         x.open(1, 1, 1);
         x.open(4000, 4001, 9);
         DUE.is("open", 5, x.open(10, 100, 1));
@@ -314,7 +314,7 @@ public final class ReadTest {
     }
 
     private static void largest() {
-        BombFamilies x = Due.taped(Due.pack(Due.times(598, 5, 0)));
+        Calls x = Due.taped(Due.pack(Due.times(598, 5, 0)));
         DUE.is("598 NOTES", 0, x.open(0, 1200, 0));
         DUE.is("598 NOTES", 598, x.item(NONE, 0));
         x.cut(1198);

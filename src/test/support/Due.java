@@ -17,8 +17,8 @@ final class Due {
     }
 
     /** Opens tape and looks at the answer, the PLACE, the STEPS and OUT. */
-    BombFamilies opens(String name, int[] tape, int[] bounds, int answer, int place, int cost, int... out) {
-        BombFamilies x = taped(tape);
+    Calls opens(String name, int[] tape, int[] bounds, int answer, int place, int cost, int... out) {
+        Calls x = taped(tape);
         is(name + ": open", answer, x.open(bounds[0], bounds[1], bounds[2]));
         is(name + ": place", place, x.place());
         is(name + ": cost", cost, x.count(2));
@@ -35,13 +35,13 @@ final class Due {
         return new int[] {most, steps, deep};
     }
 
-    static BombFamilies taped(int... tape) {
-        BombFamilies x = new BombFamilies(0);
+    static Calls taped(int... tape) {
+        Calls x = new Calls(0);
         lay(x, tape);
         return x;
     }
 
-    static void lay(BombFamilies x, int... tape) {
+    static void lay(Calls x, int... tape) {
         x.cut(0);
         for (int i = 0; i < tape.length; i += 8) {
             int n = Math.min(8, tape.length - i);
@@ -53,7 +53,7 @@ final class Due {
         }
     }
 
-    static int[] tapeOf(BombFamilies x) {
+    static int[] tapeOf(Calls x) {
         int[] tape = new int[x.count(0)];
         for (int i = 0; i < tape.length; i++) {
             tape[i] = x.at(i);
@@ -116,7 +116,7 @@ final class Due {
     }
 
     /** All that can be asked of an object without changing it. */
-    static String picture(BombFamilies x) {
+    static String picture(Calls x) {
         StringBuilder all = new StringBuilder();
         for (int what = 0; what < 7; what++) {
             all.append(x.count(what)).append(' ');

@@ -3,7 +3,7 @@ import java.util.HashMap;
 import java.util.List;
 import java.util.Map;
 
-/** The document said a second time, with lists, texts of bits and exceptions; it draws no FAMILIES. */
+/** The document said a second time, with lists, texts of bits and exceptions. */
 final class Model {
     private static final class Fault extends Exception {
         private static final long serialVersionUID = 1;
@@ -21,6 +21,76 @@ final class Model {
     final List<int[]> items = new ArrayList<>();
     int cost, deepest, begun, fault, place = -1, reads;
     private int most, steps, deep;
+    private final Families families;
+
+    Model(long seed) {
+        families = new Families(seed);
+    }
+
+    int feed(int n, long w) {
+        if (n < 1 || n > 8) {
+            return -2;
+        }
+        if (tape.size() + n > 1200) {
+            return -4;
+        }
+        String digits = String.format("%016x", w);
+        for (int i = 8 - n; i < 8; i++) {
+            tape.add(Integer.parseInt(digits.substring(2 * i, 2 * i + 2), 16));
+        }
+        return tape.size();
+    }
+
+    int cut(int n) {
+        if (n < 0 || n > tape.size()) {
+            return -2;
+        }
+        int gone = tape.size() - n;
+        tape = new ArrayList<>(tape.subList(0, n));
+        return gone;
+    }
+
+    int alter(int i, int b) {
+        return i < 0 || i >= tape.size() || b < 0 || b > 255 ? -2 : tape.set(i, b);
+    }
+
+    int mend() {
+        if (tape.isEmpty()) {
+            return -3;
+        }
+        tape.remove(tape.size() - 1);
+        int last = tape.stream().mapToInt(b -> b).sum() % 256;
+        tape.add(last);
+        return last;
+    }
+
+    int draw(int family, int size) {
+        if (family < 0 || family > 9 || size < 0 || size > 60) {
+            return -2;
+        }
+        tape = new ArrayList<>(families.made(family, size));
+        return tape.size();
+    }
+
+    int at(int i) {
+        return i < 0 || i >= tape.size() ? -1 : tape.get(i);
+    }
+
+    int out(int i) {
+        return i < 0 || i >= out.size() ? -1 : out.get(i);
+    }
+
+    int item(int i, int what) {
+        if (i == -1) {
+            return items.size();
+        }
+        return i < 0 || i >= items.size() || what < 0 || what > 3 ? -1 : items.get(i)[what];
+    }
+
+    int count(int what) {
+        int[] counts = {tape.size(), out.size(), cost, deepest, begun, fault, reads};
+        return what < 0 || what >= counts.length ? -1 : counts[what];
+    }
 
     int open(int most, int steps, int deep) {
         if (most < 0 || most > 4000 || steps < 0 || steps > 20000 || deep < 0 || deep > 8) {
