@@ -600,7 +600,8 @@ public final class BombFamilies {
         }
 
         private void readPack(int from, int end, int depth, int firstItem) {
-            if (depth < 0 || depth >= packs.length) {
+            Pack pack = depth < 0 || depth >= packs.length ? null : packs[depth];
+            if (pack == null) {
                 fail(TOO_DEEP, from);
                 return;
             }
@@ -609,7 +610,6 @@ public final class BombFamilies {
             }
             begun++;
             deepest = Math.max(deepest, depth);
-            Pack pack = packs[depth];
             pack.begin(from, end, out.size, firstItem);
             spot = from;
             readMark(MARK_ONE, end);
